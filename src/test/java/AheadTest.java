@@ -167,6 +167,13 @@ public final class AheadTest {
         Expect.same("four minutes on two", 1, x.advise(0));
         x.setCurrent(0, 5);
         Expect.same("three minutes on the lane 0", 0, x.advise(0));
+        for (int minutes = 1; minutes < 19; minutes++) {
+            LanternWeirs y = slow();
+            y.net(0, minutes + 1);
+            y.net(1, minutes);
+            y.net(2, minutes);
+            Expect.same("the lane 0 a minute later than " + minutes, 1, y.advise(0));
+        }
     }
 
     /** Only wax ends it here: a lantern that drifts a place a minute is at the place 45 with its last wax. */

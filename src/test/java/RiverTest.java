@@ -8,6 +8,7 @@ public final class RiverTest {
         nets();
         mostNets();
         tellsTheRiver();
+        tellsOfEachPlaceAlone();
         refusesOfRiver();
         Expect.end();
     }
@@ -118,7 +119,7 @@ public final class RiverTest {
         LanternWeirs x = new LanternWeirs();
         x.weir(12, 3);
         x.net(1, 12);
-        x.net(0, 0 + 11);
+        x.net(0, 11);
         x.launch(0, 1, 1, 9);
         x.launch(0, 1, 1, 9);
         x.launch(1, 1, 2, 9);
@@ -143,6 +144,23 @@ public final class RiverTest {
         Expect.same("two stay in the net", 2, x.river(1, 12, 3));
         for (int lane = 0; lane <= 2; lane++) {
             Expect.same("the lost one is at no place", 0, x.river(lane, 59, 0));
+        }
+    }
+
+    private static void tellsOfEachPlaceAlone() {
+        for (int at : new int[] {0, 1, 30, 58, 59}) {
+            for (int on = 0; on <= 2; on++) {
+                LanternWeirs x = new LanternWeirs();
+                for (int frame = 0; frame <= 2; frame++) {
+                    x.launch(frame, 0, on, at);
+                }
+                for (int place = 0; place <= 59; place++) {
+                    for (int lane = 0; lane <= 2; lane++) {
+                        int due = lane == on && place == at ? 3 : 0;
+                        Expect.same("afloat at " + lane + ", " + place, due, x.river(lane, place, 0));
+                    }
+                }
+            }
         }
     }
 

@@ -18,16 +18,8 @@ public final class AheadTest {
         Expect.end();
     }
 
-    private static LanternWeirs slow() {
-        LanternWeirs x = new LanternWeirs();
-        for (int lane = 0; lane <= 2; lane++) {
-            x.setCurrent(lane, 1);
-        }
-        return x;
-    }
-
     private static void burns() {
-        LanternWeirs x = slow();
+        LanternWeirs x = Given.river(1);
         x.launch(0, 0, 0, 0);
         x.launch(1, 0, 1, 0);
         x.launch(2, 0, 2, 0);
@@ -50,7 +42,7 @@ public final class AheadTest {
     }
 
     private static void burnsOnInANet() {
-        LanternWeirs x = slow();
+        LanternWeirs x = Given.river(1);
         x.net(0, 19);
         x.net(1, 20);
         x.net(2, 21);
@@ -80,7 +72,7 @@ public final class AheadTest {
     }
 
     private static void foresees() {
-        LanternWeirs x = slow();
+        LanternWeirs x = Given.river(1);
         x.net(0, 3);
         x.net(1, 5);
         x.launch(0, 7, 0, 0);
@@ -123,7 +115,7 @@ public final class AheadTest {
     }
 
     private static void refusesToForesee() {
-        LanternWeirs x = slow();
+        LanternWeirs x = Given.river(1);
         x.launch(0, 0, 0, 0);
         for (int bad : new int[] {0, 91, -1, Integer.MIN_VALUE, Integer.MAX_VALUE}) {
             Expect.wrongArgument("foresee(" + bad + ", 2)", x, () -> x.foresee(bad, 2));
@@ -168,7 +160,7 @@ public final class AheadTest {
         x.setCurrent(0, 5);
         Expect.same("three minutes on the lane 0", 0, x.advise(0));
         for (int minutes = 1; minutes < 19; minutes++) {
-            LanternWeirs y = slow();
+            LanternWeirs y = Given.river(1);
             y.net(0, minutes + 1);
             y.net(1, minutes);
             y.net(2, minutes);
@@ -180,10 +172,10 @@ public final class AheadTest {
     private static void advisesWithinSixtyMinutes() {
         int[] wax = {20, 30, 45};
         for (int frame = 0; frame <= 2; frame++) {
-            LanternWeirs x = slow();
+            LanternWeirs x = Given.river(1);
             x.net(2, wax[frame]);
             Expect.same("frame " + frame + " in its last minute", 2, x.advise(frame));
-            LanternWeirs y = slow();
+            LanternWeirs y = Given.river(1);
             y.net(2, wax[frame] + 1);
             Expect.same("frame " + frame + " a minute too late", -1, y.advise(frame));
         }
@@ -199,7 +191,7 @@ public final class AheadTest {
         x.weir(3, 3);
         Expect.same("bamboo is out", -1, x.advise(1));
         Expect.same("willow comes through", 0, x.advise(0));
-        LanternWeirs y = slow();
+        LanternWeirs y = Given.river(1);
         y.weir(5, 9);
         y.net(0, 5);
         y.net(1, 3);
@@ -207,7 +199,7 @@ public final class AheadTest {
     }
 
     private static void advisesWithOthersAbout() {
-        LanternWeirs x = slow();
+        LanternWeirs x = Given.river(1);
         x.net(0, 3);
         x.net(1, 4);
         x.launch(1, 0, 0, 0);
@@ -216,13 +208,13 @@ public final class AheadTest {
         x.launch(2, 0, 0, 1);
         x.launch(0, 0, 0, 1);
         Expect.same("others hold it up", 1, x.advise(2));
-        LanternWeirs y = slow();
+        LanternWeirs y = Given.river(1);
         y.weir(3, 6);
         y.net(0, 6);
         Expect.same("without shelter", -1, y.advise(2));
         y.launch(2, 0, 0, 1);
         Expect.same("with shelter", 0, y.advise(2));
-        LanternWeirs z = slow();
+        LanternWeirs z = Given.river(1);
         z.net(0, 1);
         z.launch(0, 0, 0, 0);
         z.launch(1, 0, 0, 0);
@@ -230,7 +222,7 @@ public final class AheadTest {
     }
 
     private static void advisesBeyondTheMostLanterns() {
-        LanternWeirs x = slow();
+        LanternWeirs x = Given.river(1);
         x.net(1, 2);
         for (int i = 0; i < 40; i++) {
             x.launch(0, 0, 0, 0);

@@ -6,8 +6,20 @@ final class Expect {
     }
 
     private static int wrong = 0;
+    private static String sentence = "";
 
     private Expect() {
+    }
+
+    /** The test of a sentence: its words stand ahead of each answer in it that is not the one that is due. */
+    static void holds(String words, Runnable test) {
+        sentence = "\"" + words + "\": ";
+        try {
+            test.run();
+        } catch (RuntimeException e) {
+            say("an answer was due, but thrown was " + e);
+        }
+        sentence = "";
     }
 
     static void same(String what, long want, long got) {
@@ -19,6 +31,20 @@ final class Expect {
     static void sameMean(String what, double want, double got) {
         if (want != got) {
             say(what + " answered " + got + ", due is " + want);
+        }
+    }
+
+    /** What told() tells of one lantern, from its first fact on. */
+    static void told(String what, LanternWeirs x, int lantern, int... due) {
+        for (int i = 0; i < due.length; i++) {
+            same(what + ": told(" + lantern + ", " + i + ")", due[i], x.told(lantern, i));
+        }
+    }
+
+    /** One fact of each lantern, from the first on. */
+    static void each(String what, LanternWeirs x, int fact, int... due) {
+        for (int i = 0; i < due.length; i++) {
+            same(what + ": told(" + i + ", " + fact + ")", due[i], x.told(i, fact));
         }
     }
 
@@ -51,7 +77,7 @@ final class Expect {
 
     private static void say(String text) {
         wrong++;
-        System.out.println(text);
+        System.out.println(sentence + text);
     }
 
     static void end() {

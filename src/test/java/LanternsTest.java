@@ -16,12 +16,6 @@ public final class LanternsTest {
         Expect.end();
     }
 
-    private static void told(String what, LanternWeirs x, int lantern, int... due) {
-        for (int i = 0; i < due.length; i++) {
-            Expect.same(what + ": told(" + lantern + ", " + i + ")", due[i], x.told(lantern, i));
-        }
-    }
-
     private static void launches() {
         LanternWeirs x = new LanternWeirs();
         x.weir(7, 9);
@@ -29,9 +23,9 @@ public final class LanternsTest {
         Expect.same("the first", 0, x.launch(0, 0, 0, 0));
         Expect.same("the second", 1, x.launch(1, 999, 2, 7));
         Expect.same("the third", 2, x.launch(2, 500, 1, 59));
-        told("willow", x, 0, 0, 0, 0, 0, 20, 0, 1, 0, -1);
-        told("bamboo, neither wet nor in the net", x, 1, 1, 999, 2, 7, 30, 0, 1, 0, -1);
-        told("wire", x, 2, 2, 500, 1, 59, 45, 0, 1, 0, -1);
+        Expect.told("willow", x, 0, 0, 0, 0, 0, 20, 0, 1, 0, -1);
+        Expect.told("bamboo, neither wet nor in the net", x, 1, 1, 999, 2, 7, 30, 0, 1, 0, -1);
+        Expect.told("wire", x, 2, 2, 500, 1, 59, 45, 0, 1, 0, -1);
         for (int i = 3; i < 40; i++) {
             Expect.same("lantern " + i, i, x.launch(i % 3, i, i % 3, i));
         }
@@ -63,7 +57,7 @@ public final class LanternsTest {
         x.net(2, 30);
         x.launch(2, 1, 0, 30);
         Expect.same("push(0, 2)", 0, x.push(0, 2));
-        told("pushed to where a weir and a net are", x, 0, 2, 1, 2, 30, 45, 0, 1, 0, -1);
+        Expect.told("pushed to where a weir and a net are", x, 0, 2, 1, 2, 30, 45, 0, 1, 0, -1);
         Expect.same("push to its own lane", 2, x.push(0, 2));
         Expect.same("push(0, 1)", 2, x.push(0, 1));
         x.pass(1);
@@ -173,16 +167,16 @@ public final class LanternsTest {
         x.launch(1, 12, 0, 20);
         x.launch(2, 13, 2, 57);
         x.pass(1);
-        told("drifted over a weir", x, 0, 0, 11, 1, 23, 19, 2, 1, 0, -1);
-        told("drifted to a weir", x, 1, 1, 12, 0, 22, 29, 2, 1, 0, -1);
-        told("drifted to the last place", x, 2, 2, 13, 2, 59, 44, 0, 1, 0, -1);
+        Expect.told("drifted over a weir", x, 0, 0, 11, 1, 23, 19, 2, 1, 0, -1);
+        Expect.told("drifted to a weir", x, 1, 1, 12, 0, 22, 29, 2, 1, 0, -1);
+        Expect.told("drifted to the last place", x, 2, 2, 13, 2, 59, 44, 0, 1, 0, -1);
         x.pass(1);
-        told("in a net", x, 0, 0, 11, 1, 24, 19, 2, 1, 1, 1);
-        told("drifted on", x, 1, 1, 12, 0, 24, 28, 2, 1, 0, -1);
-        told("lost", x, 2, 2, 13, 2, 60, 44, 0, 0, 2, 1);
+        Expect.told("in a net", x, 0, 0, 11, 1, 24, 19, 2, 1, 1, 1);
+        Expect.told("drifted on", x, 1, 1, 12, 0, 24, 28, 2, 1, 0, -1);
+        Expect.told("lost", x, 2, 2, 13, 2, 60, 44, 0, 0, 2, 1);
         x.pass(1);
-        told("still in the net", x, 0, 0, 11, 1, 24, 19, 2, 1, 1, 1);
-        told("still lost", x, 2, 2, 13, 2, 60, 44, 0, 0, 2, 1);
+        Expect.told("still in the net", x, 0, 0, 11, 1, 24, 19, 2, 1, 1, 1);
+        Expect.told("still lost", x, 2, 2, 13, 2, 60, 44, 0, 0, 2, 1);
         for (int bad : FAR_OFF) {
             Expect.outside("told(" + bad + ", 0)", x, () -> x.told(bad, 0));
             Expect.outside("told(0, " + bad + ")", x, () -> x.told(0, bad));

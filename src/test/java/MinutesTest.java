@@ -21,16 +21,8 @@ public final class MinutesTest {
         Expect.end();
     }
 
-    private static LanternWeirs slow() {
-        LanternWeirs x = new LanternWeirs();
-        for (int lane = 0; lane <= 2; lane++) {
-            x.setCurrent(lane, 1);
-        }
-        return x;
-    }
-
     private static void passes() {
-        LanternWeirs x = slow();
+        LanternWeirs x = Given.river(1);
         x.net(0, 10);
         x.net(1, 3);
         x.launch(0, 0, 0, 9);
@@ -131,7 +123,7 @@ public final class MinutesTest {
     }
 
     private static void farthestDownGoesFirst() {
-        LanternWeirs x = slow();
+        LanternWeirs x = Given.river(1);
         x.launch(1, 0, 0, 10);
         x.launch(0, 0, 0, 11);
         x.launch(1, 0, 0, 12);
@@ -142,7 +134,7 @@ public final class MinutesTest {
     }
 
     private static void smallestLaneAndNumberGoFirst() {
-        LanternWeirs x = slow();
+        LanternWeirs x = Given.river(1);
         x.launch(1, 0, 0, 10);
         x.launch(0, 0, 0, 10);
         x.launch(2, 0, 0, 10);
@@ -156,7 +148,7 @@ public final class MinutesTest {
 
     /** One that drifts past others in a minute still goes behind them in it. */
     private static void orderIsTheOneAhead() {
-        LanternWeirs x = slow();
+        LanternWeirs x = Given.river(1);
         x.setCurrent(0, 5);
         x.launch(0, 0, 0, 10);
         x.launch(0, 0, 0, 12);
@@ -170,7 +162,7 @@ public final class MinutesTest {
 
     private static void wetByTheSprayLessTheShelter() {
         for (int sheltering = 0; sheltering <= 5; sheltering++) {
-            LanternWeirs x = slow();
+            LanternWeirs x = Given.river(1);
             x.weir(20, 4);
             for (int i = 0; i < sheltering; i++) {
                 x.launch(0, 0, 1, 20 + i % 3);
@@ -185,7 +177,7 @@ public final class MinutesTest {
     private static void shelterIsOfThreePlacesOnTheLane() {
         for (int place = 20; place <= 26; place++) {
             for (int lane = 0; lane <= 2; lane++) {
-                LanternWeirs x = slow();
+                LanternWeirs x = Given.river(1);
                 x.weir(20, 4);
                 x.launch(2, 0, lane, place);
                 int wet = x.launch(2, 0, 1, 19);
@@ -194,14 +186,14 @@ public final class MinutesTest {
                 Expect.same("wet with one from " + place + " on lane " + lane, shelters ? 3 : 4, x.told(wet, 5));
             }
         }
-        LanternWeirs x = slow();
+        LanternWeirs x = Given.river(1);
         x.weir(20, 4);
         x.launch(2, 0, 1, 19);
         x.launch(2, 0, 1, 19);
         x.pass(1);
         Expect.same("the first of two at one place", 4, x.told(0, 5));
         Expect.same("the second of two at one place", 4, x.told(1, 5));
-        LanternWeirs y = slow();
+        LanternWeirs y = Given.river(1);
         y.weir(59, 4);
         y.launch(0, 0, 0, 58);
         y.launch(0, 0, 1, 0);
@@ -213,7 +205,7 @@ public final class MinutesTest {
     }
 
     private static void shelterOfAnyOne() {
-        LanternWeirs x = slow();
+        LanternWeirs x = Given.river(1);
         x.weir(20, 9);
         x.net(1, 23);
         x.launch(0, 0, 1, 20);
@@ -226,7 +218,7 @@ public final class MinutesTest {
     }
 
     private static void setWhereAWeirIs() {
-        LanternWeirs x = slow();
+        LanternWeirs x = Given.river(1);
         x.weir(20, 9);
         x.weir(21, 2);
         x.launch(0, 0, 0, 20);
@@ -241,7 +233,7 @@ public final class MinutesTest {
         y.launch(0, 0, 0, 10);
         y.pass(1);
         Expect.same("wet by each weir on the way", 7, y.told(0, 5));
-        LanternWeirs z = slow();
+        LanternWeirs z = Given.river(1);
         z.weir(20, 2);
         z.launch(1, 0, 0, 19);
         z.launch(0, 0, 0, 20);
@@ -270,7 +262,7 @@ public final class MinutesTest {
     }
 
     private static void netTakesOnlyOnItsLane() {
-        LanternWeirs x = slow();
+        LanternWeirs x = Given.river(1);
         x.net(0, 20);
         x.net(1, 30);
         x.launch(0, 0, 0, 29);
@@ -281,7 +273,7 @@ public final class MinutesTest {
     }
 
     private static void lastPlaceAndBeyond() {
-        LanternWeirs x = slow();
+        LanternWeirs x = Given.river(1);
         x.net(1, 59);
         for (int lane = 0; lane <= 2; lane++) {
             x.launch(lane, 0, lane, 58);
@@ -306,7 +298,7 @@ public final class MinutesTest {
     }
 
     private static void thoseThatDoNotBurn() {
-        LanternWeirs x = slow();
+        LanternWeirs x = Given.river(1);
         x.weir(12, 3);
         x.net(0, 15);
         x.launch(1, 0, 0, 10);
@@ -329,7 +321,7 @@ public final class MinutesTest {
     }
 
     private static void netsUseNoWax() {
-        LanternWeirs x = slow();
+        LanternWeirs x = Given.river(1);
         x.net(0, 2);
         x.launch(0, 3, 0, 0);
         x.pass(2);
